@@ -285,11 +285,10 @@ public final class ColourWorks {
         if (tanks[tank].inside < n) {
             return NOT;
         }
-        if (yard.size >= MOST_DRUMS) {
-            return FULL;
-        }
         int number = yard.add(n, tank, store.today, tanks[tank]);
-        tanks[tank].draw(n, palette);
+        if (number != FULL) {
+            tanks[tank].draw(n, palette);
+        }
         return number;
     }
 

@@ -15,6 +15,8 @@ public final class BatchesTest {
         dropsByHand();
         dropsOfFewest();
         dropsOfLeastNumbers();
+        dropsOfSeveralBases();
+        dropsByEachBand();
         dropsWithinStockAndRoom();
         drop();
         dropIn();
@@ -241,6 +243,40 @@ public final class BatchesTest {
         x.weigh(1, 2, 99);
         due.is("14: three, one of 3, one of 2", x.drops(0, 4, 500, 500, 500), 0);
         due.is("15: then one of base 1", x.drop(1) * 100 + x.drop(2) * 10 + x.drop(3), 111);
+    }
+
+    private static void dropsOfSeveralBases() {
+        ColourWorks x = new ColourWorks();
+        for (int base = 0; base < 3; base++) {
+            x.base(0, 10);
+            x.band(base, base, 10, 10);
+            x.lot(base, 100, 9);
+        }
+        x.batch();
+        x.weigh(0, 1, 2);
+        due.is("14: a third of each", x.drops(0, 8, 333, 333, 333), 0);
+        due.is("15: two of base 0 and of base 2", x.drop(0) * 100 + x.drop(1) * 10 + x.drop(2), 202);
+        due.is("14: of base 0 more", x.drops(0, 8, 600, 200, 200), 0);
+        due.is("15: six of base 0, two of base 2", x.drop(0) * 100 + x.drop(1) * 10 + x.drop(2), 602);
+        due.is("14: of base 0 alone", x.drops(0, 1, 333, 666, 0), 0);
+        due.is("15: one", x.drop(0) * 100 + x.drop(1) * 10 + x.drop(2), 100);
+    }
+
+    private static void dropsByEachBand() {
+        for (int band = 0; band < 3; band++) {
+            ColourWorks x = new ColourWorks();
+            x.base(10, 10);
+            x.base(10, 10);
+            x.band(1, band, 30, 10);
+            x.lot(0, 100, 9);
+            x.lot(1, 100, 9);
+            x.batch();
+            x.weigh(0, 0, 4);
+            int[] aim = {1000, 1000, 1000};
+            aim[band] = 2000;
+            due.is("14: by band " + band, x.drops(0, 8, aim[0], aim[1], aim[2]), 0);
+            due.is("15: four for band " + band, x.drop(1), 4);
+        }
     }
 
     private static void dropsWithinStockAndRoom() {

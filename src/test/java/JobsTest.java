@@ -8,6 +8,7 @@ public final class JobsTest {
         cleaning();
         planOfNone();
         planByLateness();
+        planOfLatePlaces();
         planByCleaning();
         planOfEquals();
         planOfEight();
@@ -82,6 +83,20 @@ public final class JobsTest {
         x.job(0, 100, 9, 100);
         due.is("32: the dearest first", x.plan(3), 9100 + 200 + 110);
         planned(x, 2, 1, 0);
+    }
+
+    private static void planOfLatePlaces() {
+        ColourWorks x = new ColourWorks();
+        x.job(0, 50, 1000, 1);
+        x.job(0, 10, 70, 1);
+        x.job(0, 10, 60, 1);
+        x.job(0, 20, 20, 9);
+        due.is("32: the last place is for what is never due", x.plan(0), 0);
+        planned(x, 3, 1, 2, 0);
+        x.job(0, 30, 90, 2);
+        x.job(0, 30, 60, 2);
+        due.is("32: all are done in time but one", x.plan(0), 20);
+        planned(x, 3, 2, 5, 1, 4, 0);
     }
 
     private static void planByCleaning() {

@@ -8,6 +8,8 @@ public final class TanksAndDrumsTest {
         limit();
         pourRefused();
         pourIntoLike();
+        pourByEachBand();
+        pourOfOneUnit();
         pourRoom();
         pourOnStain();
         stainStays();
@@ -109,6 +111,39 @@ public final class TanksAndDrumsTest {
         due.is("22: on the stain", x.pour(4, 0), 100);
         x.weigh(x.batch(), 1, 10);
         due.is("22: no drum since the first came", x.pour(5, 0), 110);
+    }
+
+    private static void pourByEachBand() {
+        for (int band = 0; band < 3; band++) {
+            ColourWorks x = works(1);
+            x.band(1, 0, 10, 10);
+            x.band(1, 1, 10, 10);
+            x.band(1, 2, 10, 10);
+            x.weigh(x.batch(), 1, 50);
+            x.pour(0, 0);
+            x.band(1, band, 11, 10);
+            x.limit(99);
+            due.is("22: unlike in band " + band, x.pour(1, 0), NOT);
+            x.fill(0, 100);
+            x.band(1, band, 9, 10);
+            due.is("22: below the stain in band " + band, x.pour(1, 0), NOT);
+            x.band(1, band, 10, 10);
+            due.is("22: not below it in band " + band, x.pour(1, 0), 50);
+        }
+    }
+
+    private static void pourOfOneUnit() {
+        ColourWorks x = works(3);
+        x.weigh(x.batch(), 0, 1);
+        due.is("22: one unit", x.pour(3, 0), 1);
+        due.is("29: a tank with one unit", x.recall(0, 2), 1);
+        due.is("22: unlike the one", x.pour(1, 0), NOT);
+        x.pour(0, 1);
+        x.fill(1, 99);
+        due.is("25: one is left", x.tank(1, 0), 1);
+        due.is("25: not stained yet", x.tank(1, 2), 0);
+        due.is("29: it has the lot still", x.recall(0, 2), 2);
+        due.is("22: nor to be poured on", x.pour(1, 1), NOT);
     }
 
     private static void pourRoom() {
