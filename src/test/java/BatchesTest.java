@@ -17,6 +17,7 @@ public final class BatchesTest {
         dropsOfLeastNumbers();
         dropsOfSeveralBases();
         dropsByEachBand();
+        dropsOfAllEight();
         dropsWithinStockAndRoom();
         drop();
         dropIn();
@@ -33,6 +34,9 @@ public final class BatchesTest {
         due.is("11: 24", x.count(3), 24);
         x.base(1, 1);
         due.is("11: of nothing", x.amount(23, 0), 0);
+        x.lot(0, 5, 9);
+        x.weigh(23, 0, 5);
+        due.is("29: in the last one", x.recall(0, 1), 1);
     }
 
     private static void weigh() {
@@ -277,6 +281,23 @@ public final class BatchesTest {
             due.is("14: by band " + band, x.drops(0, 8, aim[0], aim[1], aim[2]), 0);
             due.is("15: four for band " + band, x.drop(1), 4);
         }
+    }
+
+    /** Eight of base 0 and eight of base 7 are the farthest apart of all that can be tried. */
+    private static void dropsOfAllEight() {
+        ColourWorks x = new ColourWorks();
+        for (int base = 0; base < 8; base++) {
+            x.base(base == 0 ? 1000 : base == 7 ? 0 : 500, 500);
+            x.lot(base, 20, 9);
+        }
+        x.batch();
+        x.weigh(0, 3, 8);
+        due.is("14: as dark as may be", x.drops(0, 8, 2000, 2000, 2000), 500);
+        due.is("15: eight of base 0", x.drop(0), 8);
+        due.is("14: as light as may be", x.drops(0, 8, 0, 0, 0), 500);
+        due.is("15: eight of base 7", x.drop(7), 8);
+        due.is("16: in", x.dropIn(0), 16);
+        due.is("17: eight", x.amount(0, 7), 8);
     }
 
     private static void dropsWithinStockAndRoom() {
