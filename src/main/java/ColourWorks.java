@@ -816,7 +816,7 @@ public final class ColourWorks {
         }
     }
 
-    /** Tries all drops in the order of their numbers of base 0, of base 1 and so on, so that the first of equals stays. */
+    /** Tries all drops, by their numbers of base 0, of base 1 and so on, so that the first of equals stays. */
     private static final class DropSearch {
         private final int[] best = new int[MOST_BASES];
         private boolean hasFound = false;
