@@ -1,3 +1,5 @@
+import java.util.List;
+
 /** Counts the answers that are not those that are due. */
 final class Due {
     private int wrong = 0;
@@ -8,6 +10,20 @@ final class Due {
         if (got != want) {
             wrong++;
             System.out.println(call + " answered " + got + ", due is " + want);
+        }
+    }
+
+    /** Tells the first row alone that differs: the rows behind it follow from it. */
+    void same(String call, List<String> got, List<String> want) {
+        asked++;
+        for (int i = 0; i < want.size() || i < got.size(); i++) {
+            String mine = i < got.size() ? got.get(i) : "no row";
+            String other = i < want.size() ? want.get(i) : "no row";
+            if (!mine.equals(other)) {
+                wrong++;
+                System.out.println(call + ": then " + mine + ", due is " + other);
+                return;
+            }
         }
     }
 

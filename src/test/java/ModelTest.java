@@ -3,13 +3,16 @@ import java.lang.reflect.Method;
 import java.util.ArrayList;
 import java.util.Arrays;
 import java.util.Comparator;
+import java.util.HashMap;
 import java.util.List;
+import java.util.Map;
 import java.util.Random;
 
 /** Long runs of seeded calls, each answer compared with that of PlainModel. */
 public final class ModelTest {
     private static final int RUNS = 400, CALLS = 512;
     private static final int[] EDGES = {Integer.MIN_VALUE, -20000, -2, 1 << 20, 1000001, 1 << 30, Integer.MAX_VALUE};
+    private static final Map<String, int[]> LIMITS = limits();
     private static final List<Method> works = new ArrayList<>();
     private static final List<Method> model = new ArrayList<>();
     private static int wrong = 0;
@@ -25,6 +28,33 @@ public final class ModelTest {
         System.out.println(calls + " calls, " + accepted + " not refused, " + wrong + " not as the model");
         if (wrong != 0 || accepted < calls / 4) {
             System.exit(1);
+        }
+    }
+
+    private static Map<String, int[]> limits() {
+        Map<String, int[]> all = new HashMap<>();
+        tellLimits(all, "base", new int[] {0, 1000}, new int[] {0, 1000});
+        tellLimits(all, "band", null, new int[] {0, 2}, new int[] {0, 1000}, new int[] {0, 1000});
+        tellLimits(all, "lot", null, new int[] {1, 20000}, new int[] {0, 10000});
+        tellLimits(all, "part", null, null, null, new int[] {1, 100});
+        tellLimits(all, "weigh", null, null, new int[] {1, 20000});
+        tellLimits(all, "brew", null, null, new int[] {1, 100});
+        int[] aim = {0, 1000000};
+        tellLimits(all, "drops", null, new int[] {0, 8}, aim, aim, aim);
+        tellLimits(all, "miss", null, aim, aim, aim);
+        tellLimits(all, "holds", null, new int[] {1, 60000});
+        tellLimits(all, "limit", aim);
+        tellLimits(all, "fill", null, new int[] {1, 1000});
+        tellLimits(all, "job", null, new int[] {1, 100}, new int[] {0, 1000}, new int[] {0, 100});
+        tellLimits(all, "cleaning", null, null, new int[] {0, 1000});
+        return all;
+    }
+
+    private static void tellLimits(Map<String, int[]> all, String name, int[]... ofEach) {
+        for (int i = 0; i < ofEach.length; i++) {
+            if (ofEach[i] != null) {
+                all.put(name + i, ofEach[i]);
+            }
         }
     }
 
@@ -52,7 +82,9 @@ public final class ModelTest {
         boolean dear = run % 10 == 0;
         for (int i = 0; i < CALLS; i++) {
             int which = chosen(random, run, i, dear);
-            Object[] given = arguments(works.get(which), random, run % 4);
+            Object[] given = run % 5 == 4 && random.nextInt(3) == 0
+                ? edgeArguments(works.get(which), random, run % 4)
+                : arguments(works.get(which), random, run % 4);
             int want = (int) model.get(which).invoke(y, given);
             String call = works.get(which).getName() + Arrays.toString(given);
             told.add(call + " = " + want);
@@ -110,6 +142,19 @@ public final class ModelTest {
             given[i] = m.getParameterTypes()[i] == boolean.class
                 ? (Object) random.nextBoolean()
                 : (Object) number(m.getName(), i, random, size);
+        }
+        return given;
+    }
+
+    /** As arguments, but one of the numbers is at a limit of the document, or one beside it. */
+    private static Object[] edgeArguments(Method m, Random random, int size) {
+        Object[] given = arguments(m, random, size);
+        for (int turn = 0; turn < 2 && given.length > 0; turn++) {
+            int at = random.nextInt(given.length);
+            int[] limits = LIMITS.get(m.getName() + at);
+            if (limits != null) {
+                given[at] = limits[random.nextInt(2)] + random.nextInt(3) - 1;
+            }
         }
         return given;
     }
